@@ -976,7 +976,6 @@ public final class FerryRamp {
             }
             if (counts[Count.WINCH] == WAKING && counts[Count.WAKE_LEFT] <= 0) {
                 counts[Count.WINCH] = AWAKE;
-                counts[Count.WAKE_LEFT] = 0;
             }
             if (counts[Count.WINCH] == AWAKE) {
                 pullEnd();
@@ -1069,7 +1068,6 @@ public final class FerryRamp {
             weights[lane] += weight;
             taken[lane] += length;
             counts[Count.RAMP] = car;
-            counts[Count.DRIVEN] = 0;
             counts[Count.WAITING] = 0;
         }
 

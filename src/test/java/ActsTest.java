@@ -335,6 +335,10 @@ public final class ActsTest {
         Check.dueText("what is refused changes nothing", all(x), before);
         Check.due("not for another kind", x.unload(2), 2);
         Check.due("the deck rises", x.lip(), 4);
+        x.crank(2);
+        Check.due("one too much", x.crank(1), 7);
+        Check.due("a lip too great", x.unload(0), -4);
+        Check.due("not too much", x.crank(-1), 6);
         Check.due("then", x.unload(0), 3);
         Check.due("and the one ahead of it", x.unload(0), 0);
         Check.due("and none", x.unload(0), -1);
@@ -345,11 +349,10 @@ public final class ActsTest {
         Check.due("where it is", x.car(3, 2), 3);
         Check.due("its lane", x.car(3, 3), 0);
         Check.due("free of the lane", x.lane(0, true), 10);
-        x.crank(20);
-        x.crank(20);
-        x.crank(20);
-        x.crank(20);
-        Check.due("the slope is 100", x.slope(), 100);
+        while (x.slope() < 100) {
+            x.crank(1);
+        }
+        Check.due("END is above", x.count(4), 120);
         Check.due("the lip alone", x.unload(1), -4);
         x.crank(1);
         Check.due("the slope comes ahead of the lip", x.unload(1), -3);

@@ -63,8 +63,23 @@ public final class ForesightTest {
         Check.due("the ramp ahead of the lanes", ramp.whyNot(1), 2);
         ramp.tick(3);
         Check.due("then the lanes", ramp.whyNot(1), 3);
+        Check.due("what is taken of all lanes", shortOf(3), 3);
+        Check.due("what is free of the lane 0", shortOf(0), 0);
+        Check.due("what is free of the lane 1", shortOf(1), 0);
+        Check.due("what is free of the lane 2", shortOf(2), 0);
         Check.due("the load counts what is on deck", loadedBy(60, 41), 4);
         Check.due("up to LOAD", loadedBy(60, 40), 0);
+    }
+
+    /** Each lane has 2 free, but for this one, which has 3; asked is a car of the LENGTH 3. */
+    private static int shortOf(int lane) {
+        FerryRamp x = Check.ramp("lanes 5 load 1000 list 1000; cross 1 patience 5; car " + (lane == 0 ? 1 : 2) + " 10; car "
+            + (lane == 1 ? 1 : 2) + " 10; car " + (lane == 2 ? 1 : 2) + " 10; car 2 1;");
+        x.tick(3);
+        x.setGate(false);
+        x.tick(1);
+        x.setGate(true);
+        return x.whyNot(3);
     }
 
     private static int loadedBy(int there, int next) {
@@ -280,6 +295,9 @@ public final class ForesightTest {
         Check.due("fullness() of all", x.fullness(), 1.0);
         x.unload(0);
         Check.due("fullness() of 600", x.fullness(), 600f / 700f);
+        FerryRamp one = Check.ramp("lanes 1 load 1 list 1; cross 1 patience 5; car 0 1;");
+        one.tick(2);
+        Check.due("fullness() of a LOAD of 1", one.fullness(), 1.0);
     }
 
     private static void nothingChanges() {

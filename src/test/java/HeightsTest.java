@@ -94,6 +94,12 @@ public final class HeightsTest {
         flat.tick(1);
         Check.due("waterIn(true) of a flat tide", flat.waterIn(true), 98);
         Check.due("waterIn(false) of a flat tide", flat.waterIn(false), 197);
+        FerryRamp quick = Check.ramp("tide 5 9 half 1;");
+        Check.due("waterIn(true) of a quick tide", quick.waterIn(true), 1);
+        Check.due("waterIn(false) of a quick tide", quick.waterIn(false), 0);
+        quick.tick(1);
+        Check.due("waterIn(true) of a quick tide now", quick.waterIn(true), 0);
+        Check.due("waterIn(false) of a quick tide then", quick.waterIn(false), 1);
     }
 
     private static void list() {

@@ -7,6 +7,7 @@ public final class KeepTest {
         output();
         undo();
         undoOfEach();
+        undoOfWhatIsOverwritten();
         undoLimits();
         save();
         restore();
@@ -170,6 +171,63 @@ public final class KeepTest {
         Check.due("what is refused is nothing to undo", y.setGate(true), -1);
         Check.due("undo() of what was done", y.undo(), 1);
         Check.dueText("behind it", all(y), before);
+    }
+
+    private static void undoOfWhatIsOverwritten() {
+        FerryRamp x = Check.ramp("cross 1 patience 9; lanes 30 load 9999 list 0; car 0 5; car 0 6; car 0 7;");
+        x.tick(4);
+        x.save(1);
+        String before = all(x);
+        Check.due("unload(1)", x.unload(1), 2);
+        x.tick(1);
+        x.unload(1);
+        x.arrive(0, 9);
+        x.tick(2);
+        Check.due("another car where one stood", x.standing(1, 0), 0);
+        Check.due("and one behind it", x.standing(1, 1), 3);
+        String behind = all(x);
+        x.save(0);
+        for (int act = 0; act < 5; act++) {
+            x.undo();
+        }
+        Check.dueText("undo() brings the lane back", all(x), before);
+        x.restore(0);
+        Check.dueText("restore(0) brings the lane back", all(x), behind);
+        x.restore(1);
+        Check.dueText("restore(1) brings the lane back", all(x), before);
+        FerryRamp right = Check.ramp("cross 1 patience 9; car 0 5; car 0 6; car 0 7; car 0 1; car 0 1; car 0 1;");
+        right.tick(7);
+        String stood = all(right);
+        right.unload(2);
+        right.arrive(0, 1);
+        right.tick(2);
+        Check.due("another car in the lane 2", right.standing(2, 0), 6);
+        right.undo();
+        right.undo();
+        right.undo();
+        Check.dueText("undo() brings the lane 2 back", all(right), stood);
+        FerryRamp calls = Check.ramp("quay 400; cross 1 patience 1; car 0 5;");
+        calls.tick(25);
+        String kept = all(calls);
+        calls.tick(13);
+        calls.undo();
+        Check.dueText("undo() brings the calls back", all(calls), kept);
+        calls.save(0);
+        calls.tick(50);
+        calls.restore(0);
+        Check.dueText("restore() brings the calls back", all(calls), kept);
+        FerryRamp many = new FerryRamp();
+        for (int car = 0; car < 60; car++) {
+            many.arrive(car % 4, 1 + car);
+            many.dismiss(car);
+        }
+        String cars = all(many);
+        many.save(0);
+        many.undo();
+        many.undo();
+        many.arrive(0, 999);
+        many.restore(0);
+        Check.dueText("restore() brings 60 cars back", all(many), cars);
     }
 
     private static void undoLimits() {

@@ -233,6 +233,16 @@ public final class StandTest {
             + "car 2 2; car 1 3; car 1 4;");
         order.tick(1);
         dueCall(order, 0, 1, 0, 6, 2);
+        FerryRamp waved = crewed();
+        waved.arrive(1, 20);
+        waved.wave(2);
+        waved.tick(2);
+        dueCall(waved, 0, 2, 2, 6, 1);
+        FerryRamp lip = Check.ramp("cross 1 patience 1; kind 1 100 3 1; car 0 1; car 1 2; winch 1 50 0;");
+        lip.crank(4);
+        lip.wave(1);
+        lip.tick(1);
+        dueCall(lip, 0, 1, 1, 7, 0);
     }
 
     private static void callsKept() {

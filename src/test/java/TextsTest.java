@@ -8,6 +8,7 @@ public final class TextsTest {
         truncateText();
         load();
         loadOfEverySetting();
+        loadOverMuch();
         loadErrors();
         loadRanges();
         play();
@@ -179,12 +180,52 @@ public final class TextsTest {
         Check.wrongSetup(twenty + "cars", 1, 160);
     }
 
+    /** Nothing of what was there, or of what would have been, is left behind load(). */
+    private static void loadOverMuch() {
+        FerryRamp x = Check.ramp("tide -9 9 half 9; quay 9; deck 9 sink 9; lanes 9 load 999 list 999; winch 9 9 9;"
+            + "cross 1 patience 9; kind 0 99 99 9; kind 1 99 99 8; kind 2 99 99 7; kind 3 99 99 6; car 0 10; car 1 20; car 2 30;");
+        x.tick(4);
+        Check.due("boardIn(50)", x.boardIn(50), 0);
+        Check.due("cars on deck", x.count(2), 3);
+        Check.due("load()", Check.load(x, "car 0 5;"), 1);
+        int[] settings = {0, 0, 10, 0, 0, 100, 10, 1000, 1000, 2, 5, 2, 3, 5};
+        for (int what = 0; what < settings.length; what++) {
+            Check.due("anew: setting(" + what + ")", x.setting(what), settings[what]);
+        }
+        for (int kind = 0; kind < 4; kind++) {
+            Check.due("anew: STEEP of " + kind, x.kind(kind, 0), 100);
+            Check.due("anew: LIP of " + kind, x.kind(kind, 1), 10);
+            Check.due("anew: LENGTH of " + kind, x.kind(kind, 2), kind + 1);
+        }
+        int[] car = {0, 5, 0, NONE, 0, NONE, NONE};
+        for (int what = 0; what < car.length; what++) {
+            Check.due("anew: car(0, " + what + ")", x.car(0, what), car[what]);
+        }
+        for (int lane = 0; lane < 3; lane++) {
+            Check.due("anew: standing(" + lane + ", 0)", x.standing(lane, 0), NONE);
+            Check.due("anew: what is free of " + lane, x.lane(lane, true), 10);
+            Check.due("anew: the weight of " + lane, x.lane(lane, false), 0);
+        }
+        Check.due("anew: heaviest()", x.heaviest(), NONE);
+        Check.due("anew: END", x.count(4), 0);
+        Check.due("anew: the slope", x.slope(), 0);
+        Check.due("anew: the lip", x.lip(), 0);
+    }
+
     private static void loadErrors() {
         Check.wrongSetup(";", 1, 0);
         Check.wrongSetup(" 5", 1, 1);
         Check.wrongSetup("tick;", 1, 0);
         Check.wrongSetup("Tide 0 5 half 3;", 1, 0);
         Check.wrongSetup("tides 0 5 half 3;", 1, 0);
+        Check.wrongSetup("tidez 0 5 half 3;", 1, 0);
+        Check.wrongSetup("tidea 0 5 half 3;", 1, 0);
+        Check.wrongSetup("tide{0 5 half 3;", 1, 4);
+        Check.wrongSetup("tide`0 5 half 3;", 1, 4);
+        Check.wrongSetup("quay 5/;", 1, 6);
+        Check.wrongSetup("quay 5:;", 1, 6);
+        Check.wrongSetup("bide 0 5 half 3;", 1, 0);
+        Check.wrongSetup("quax 5;", 1, 0);
         Check.wrongSetup("tid", 1, 0);
         Check.wrongSetup("tide", 1, 4);
         Check.wrongSetup("tide \n ", 1, 7);
