@@ -1,8 +1,27 @@
 /** What the tests share: answers that are due, exceptions that are due, texts for the buffer. */
-final class Check {
+class Check {
     private static int wrong = 0;
+    private static String section = "";
+    private static String sentence = "";
 
-    private Check() {
+    Check() {
+    }
+
+    /** The section of the document that the next sentences stand in. */
+    static void section(String name) {
+        section = name;
+        sentence = "";
+    }
+
+    /** The sentence of the document that the next answers are due by. */
+    static void says(String words) {
+        Doc.quote(section, words);
+        sentence = section + ", \"" + words + "\": ";
+    }
+
+    /** Words of the document that no call can break. */
+    static void plain(String words) {
+        Doc.quote(section, words);
     }
 
     interface Call {
@@ -23,7 +42,7 @@ final class Check {
 
     static void report(String what) {
         wrong++;
-        System.out.println(what);
+        System.out.println(sentence + what);
     }
 
     static void throwsState(String call, Call it) {
@@ -38,7 +57,7 @@ final class Check {
         dueThrow(call, it, IndexOutOfBoundsException.class);
     }
 
-    private static void dueThrow(String call, Call it, Class<?> want) {
+    static void dueThrow(String call, Call it, Class<?> want) {
         Class<?> got = null;
         try {
             it.run();
