@@ -134,16 +134,18 @@ final class KeepSentences extends Sentences {
         busy.undo();
         busy.undo();
         same("two times 50 ticks, and a refusal", Look.state(busy), before);
-        FerryRamp boarded = played("cross 1 patience 50; lanes 9 load 99 list 0; car 0 5; car 0 6; car 0 7;", "tick 4;");
-        String stood = Look.state(boarded);
-        boarded.unload(1);
-        boarded.arrive(0, 9);
-        boarded.tick(2);
-        due("another car stands where one stood", boarded.standing(1, 2), 3);
-        boarded.undo();
-        boarded.undo();
-        boarded.undo();
-        same("the lane is as it was", Look.state(boarded), stood);
+        for (int lane = 0; lane < 3; lane++) {
+            FerryRamp boarded = played("cross 1 patience 50;" + "car 0 9;".repeat(6), "tick 7;");
+            String stood = Look.state(boarded);
+            boarded.unload(lane);
+            boarded.arrive(0, 8);
+            boarded.tick(2);
+            due("another car stands where one stood", boarded.standing(lane, 1), 6);
+            boarded.undo();
+            boarded.undo();
+            boarded.undo();
+            same("the lane " + lane + " is as it was", Look.state(boarded), stood);
+        }
         FerryRamp calls = played("quay 400; cross 1 patience 1; car 0 5;", "tick 25;");
         String kept = Look.state(calls);
         calls.tick(50);

@@ -124,6 +124,18 @@ final class Look {
      * accounts, an error, an output and a text.
      */
     static FerryRamp busy() {
+        FerryRamp x = started();
+        x.wave(5);
+        x.tick(1);
+        return texted(x);
+    }
+
+    /** The same ramp a tick before that: no car is on it, and the first one waits for the crew. */
+    static FerryRamp waiting() {
+        return texted(started());
+    }
+
+    private static FerryRamp started() {
         FerryRamp x = Check.ramp("tide -5 12 half 9; quay 4; deck 3 sink 20; lanes 6 load 300 list 90; kind 1 9 4 2;"
             + "kind 2 3 2 3; winch 2 3 3; cross 3 patience 2; car 1 40; car 2 50; car 0 30; car 0 60; car 3 20;"
             + "car 1 11; car 2 12; car 0 13;");
@@ -138,8 +150,10 @@ final class Look {
         x.dismiss(6);
         x.save(1);
         x.tick(8);
-        x.wave(5);
-        x.tick(1);
+        return x;
+    }
+
+    private static FerryRamp texted(FerryRamp x) {
         x.writeLanes();
         Check.load(x, "quay 4; quay 5;");
         Check.put(x, "quay 77;");

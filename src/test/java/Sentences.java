@@ -4,7 +4,9 @@ class Sentences extends Check {
     static final int MIN = Integer.MIN_VALUE;
     static final int MAX = Integer.MAX_VALUE;
 
-    private static final String BUSY = Look.whole(Look.busy());
+    /** No call changes these two ramps, or only what it is asked for. */
+    private static final FerryRampMaker[] RAMPS = {Look::busy, Look::waiting};
+    private static final String[] WHOLE = {Look.whole(Look.busy()), Look.whole(Look.waiting())};
 
     /** The acts, by the names that the lists below follow. */
     static final String[] NAMES = {"tick()", "arrive()", "wave()", "dismiss()", "unload()", "setGate()", "crank()",
@@ -17,6 +19,10 @@ class Sentences extends Check {
         "winch 9 9 9;", "cross 9 patience 9;"};
 
     Sentences() {
+    }
+
+    interface FerryRampMaker {
+        FerryRamp make();
     }
 
     interface Act {
@@ -47,13 +53,19 @@ class Sentences extends Check {
         }
     }
 
-    /** The call throws this on a busy ramp, and changes nothing there. */
+    /** The call throws this, and changes nothing. */
     private static void throwing(String call, Look.Use use, Class<?> want) {
-        FerryRamp x = Look.busy();
-        String accounts = Look.accounts(x);
-        dueThrow(call, () -> use.on(x), want);
-        same(call + " changes an account", Look.accounts(x), accounts);
-        same(call + " changes something", Look.whole(x), BUSY);
+        changesNothing(call, x -> dueThrow(call, () -> use.on(x), want));
+    }
+
+    static void changesNothing(String call, Look.Use use) {
+        for (int index = 0; index < RAMPS.length; index++) {
+            FerryRamp x = RAMPS[index].make();
+            String accounts = Look.accounts(x);
+            use.on(x);
+            same(call + " changes an account", Look.accounts(x), accounts);
+            same(call + " changes something", Look.whole(x), WHOLE[index]);
+        }
     }
 
     static void state(String call, Look.Use use) {
@@ -66,15 +78,6 @@ class Sentences extends Check {
 
     static void index(String call, Look.Use use) {
         throwing(call, use, IndexOutOfBoundsException.class);
-    }
-
-    /** The call changes nothing of a busy ramp. */
-    static void changesNothing(String call, Look.Use use) {
-        FerryRamp x = Look.busy();
-        String accounts = Look.accounts(x);
-        use.on(x);
-        same(call + " changes an account", Look.accounts(x), accounts);
-        same(call + " changes something", Look.whole(x), BUSY);
     }
 
     /** The act is refused with this reason, which changes the account of this reason alone. */

@@ -161,6 +161,7 @@ final class StandSentences extends Sentences {
         counts("less behind that", played("quay 9; winch 1 50 0; car 0 5;", "tick 4; crank 2; car 0 5; tick 2;"), 15, 9);
         counts("more behind that", played("quay 9; winch 1 50 0; car 0 5;", "tick 4; crank -2; car 0 5; tick 2;"), 15, 11);
         counts("a slope without a car", played("quay 9; winch 1 50 0; car 0 5;", "tick 4; crank -20; tick 9;"), 15, 9);
+        counts("unloading is no driving", played("quay 9; winch 1 50 0; car 0 5;", "tick 4; crank -2; unload 0;"), 15, 9);
         counts("it stood on a greater one", played("tide 0 10 half 10; winch 20 0 0; kind 0 2 0 1; car 0 5;", "tick 9;"), 15, 2);
 
         says("16: 1 if the gate is open, else 0;");
@@ -453,7 +454,7 @@ final class StandSentences extends Sentences {
         says("Throws `IllegalArgumentException` if what is out of range");
         for (int what : new int[] {-1, 4, MIN, MAX}) {
             argument("call(0, " + what + ")", y -> y.call(0, what));
-            argument("call(3, " + what + ")", y -> y.call(3, what));
+            argument("call(2, " + what + ")", y -> y.call(2, what));
         }
     }
 

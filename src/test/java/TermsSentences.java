@@ -481,7 +481,7 @@ final class TermsSentences extends Sentences {
         due("all", whyNot(setup, "tick; gate closed;", 1), 1);
         due("all but the gate and the ramp", whyNot(setup, "tick; dismiss 1; tick 4; car 3 999;", 2), 3);
         FerryRamp x = played("lanes 8 load 300 list 40; deck 0 sink 999; kind 1 9 5 7; kind 3 9 5 8; cross 1 patience 50;"
-            + "car 0 100; car 0 40; car 0 40; car 0 40; car 0 80;", "tick 6; unload 0; car 3 999; car 1 41; car 1 39; car 1 40; crank 20;");
+            + "car 0 100; car 0 40; car 0 40; car 0 40; car 0 80;", "tick 6; unload 0; car 3 999; car 1 200; car 1 39; car 1 40; crank 20;");
         due("from 3 on", x.whyNot(5), 3);
         due("from 4 on", x.whyNot(6), 4);
         due("from 5 on", x.whyNot(7), 5);

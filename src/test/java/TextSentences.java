@@ -79,6 +79,8 @@ final class TextSentences extends Sentences {
         rightSetup("tide0 5half3;");
         wrongSetup("tide 0 5 half3quay 1;", 1, 14);
         wrongSetup("quayquay 1;", 1, 0);
+        wrongSetup("quaya1;", 1, 0);
+        wrongSetup("quayz1;", 1, 0);
         wrongSetup("qua y 1;", 1, 0);
         wrongScript("ticktick;", 1, 0);
         for (char sign : new char[] {'`', '{', 'A', 'Z', '@', '[', '_'}) {
@@ -88,6 +90,9 @@ final class TextSentences extends Sentences {
         wrongSetup("quaY 1;", 1, 0);
         wrongSetup("quay`1;", 1, 4);
         wrongSetup("quay{1;", 1, 4);
+        wrongSetup("quayA1;", 1, 4);
+        wrongSetup("quayZ1;", 1, 4);
+        wrongScript("tickT;", 1, 4);
 
         says("numbers (maximal runs of the digits 0 to 9),");
         rightSetup("quay 90;");
@@ -179,6 +184,11 @@ final class TextSentences extends Sentences {
                 wrong(isSetup, before + tokens[index] + "s" + behind, 1, before.length());
                 wrong(isSetup, before + tokens[index].substring(1) + behind, 1, before.length());
                 wrong(isSetup, before + tokens[index].toUpperCase() + behind, 1, before.length());
+                for (int place = 0; place < tokens[index].length(); place++) {
+                    char[] signs = tokens[index].toCharArray();
+                    signs[place]++;
+                    wrong(isSetup, before + new String(signs) + behind, 1, before.length());
+                }
             }
         }
         String unended = join(tokens, tokens.length - 1);
@@ -812,6 +822,7 @@ final class TextSentences extends Sentences {
         String[] setups = {"", "car 0 5;", FULL_SETUP, "tide 0 9 half 4; car 2 3;"};
         for (String setup : setups) {
             FerryRamp x = Look.busy();
+            x.boardIn(200);
             load(x, setup);
             same("load() of \"" + setup + "\"", Look.state(x), Look.state(ramp(setup)));
             x.tick(20);
@@ -840,6 +851,10 @@ final class TextSentences extends Sentences {
             stay.restore(slot);
             same("the slot " + slot, Look.state(stay), Look.state(busy));
         }
+        FerryRamp written = ready();
+        written.writeLanes();
+        load(written, "quay 1;");
+        due("no act changes the output", written.output(0), '0');
 
         says("The text buffer is empty afterwards, also if there is an error.");
         FerryRamp text = ramp("quay 1;");
@@ -866,11 +881,11 @@ final class TextSentences extends Sentences {
             due("load() once more", busy.load(), NONE);
             same("acts to undo and saved states", Look.whole(same), Look.whole(busy));
         }
-        FerryRamp undone = Look.busy();
-        FerryRamp twin = Look.busy();
-        load(undone, "?");
-        due("undo()", undone.undo(), twin.undo());
-        same("it undoes the act", Look.state(undone), Look.state(twin));
+        FerryRamp undone = ready();
+        load(undone, "quay 5; ?");
+        counts("acts to undo", undone, 17, 3);
+        due("undo()", undone.undo(), 2);
+        counts("it undoes the act", undone, 0, 3);
     }
 
     private static void play() {
@@ -929,6 +944,9 @@ final class TextSentences extends Sentences {
             load(same, "?");
             same("acts to undo and saved states", Look.whole(same), Look.whole(busy));
         }
+        FerryRamp undone = ready();
+        play(undone, "tick; ?");
+        due("undo()", undone.undo(), 2);
     }
 
     private static void errorCode() {
