@@ -4,8 +4,8 @@ class Sentences extends Check {
     static final int MIN = Integer.MIN_VALUE;
     static final int MAX = Integer.MAX_VALUE;
 
-    /** No call changes these two ramps, or only what it is asked for. */
-    private static final FerryRampMaker[] RAMPS = {Look::busy, Look::waiting};
+    /** The ramps on which calls that change nothing are tried, and how they are whole. */
+    private static final Maker[] RAMPS = {Look::busy, Look::waiting};
     private static final String[] WHOLE = {Look.whole(Look.busy()), Look.whole(Look.waiting())};
 
     /** The acts, by the names that the lists below follow. */
@@ -21,7 +21,7 @@ class Sentences extends Check {
     Sentences() {
     }
 
-    interface FerryRampMaker {
+    interface Maker {
         FerryRamp make();
     }
 
