@@ -517,6 +517,9 @@ final class TermsSentences extends Sentences {
         counts("a slope of STEEP", played(steep + "2 0 1;", "tick 2;"), 9, 1);
         counts("a slope of STEEP and 1", played(steep + "1 0 1;", "tick 2;"), 9, 0);
         counts("in each tick", played("cross 20 patience 50; car 0 5;", "tick 20;"), 9, 19);
+        String quay = "quay 5; tide 0 10 half 10; winch 20 0 0; cross 20 patience 50; car 0 5; kind 0 4 0 1;";
+        counts("slopes of 3, 0 and 4 again", played(quay, "tick 9;"), 9, 8);
+        counts("and of 5", played(quay, "tick 10;"), 9, 8);
 
         says("otherwise it stands still.");
         counts("a lip of LIP", played(lip + "2 1;", "tick 2;"), 10, 0);
